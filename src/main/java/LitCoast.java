@@ -1166,8 +1166,9 @@ public final class LitCoast {
 
     /** From the highest STATE down, as each hangs on those above it alone. */
     void fill(int[] code, int full, int broken, int news) {
-      for (int state = Math.min(full, of.length - 1); state >= 0; state--) {
-        fillBest(code, full, broken, state);
+      int top = Math.min(full, of.length - 1);
+      for (int state = top; state >= 0; state--) {
+        fillBest(code, top, broken, state);
         int least = MOST_LAMPS;
         for (int told = 0; told < news && told < MOST_NEWS; told++) {
           if (told != code[state]) {
@@ -1179,9 +1180,9 @@ public final class LitCoast {
     }
 
     /** The most LASTING STATE above one for each NEWS; NONE, where there is no STATE. */
-    private void fillBest(int[] code, int full, int broken, int state) {
+    private void fillBest(int[] code, int top, int broken, int state) {
       Arrays.fill(best, NONE);
-      for (int to = (state + 1) | state; to <= full; to = (to + 1) | state) {
+      for (int to = (state + 1) | state; to <= top; to = (to + 1) | state) {
         int told = code[to];
         if (told >= 0 && told < MOST_NEWS && ((to ^ state) & broken) == 0) {
           best[told] = Math.max(best[told], of[to]);
@@ -1481,7 +1482,7 @@ public final class LitCoast {
     private final Keeper keeper;
     private final Coast coast;
     private final long[] ways = new long[MOST_STATES];
-    // Bit i: if i NEWS are SENT, the others can be SENT from here for the least OIL.
+    // Bit i, from 1 on: if i NEWS are SENT, the others can be SENT from here for the least OIL.
     private final int[] open = new int[MOST_STATES];
 
     Errand(Keeper keeper) {
@@ -1548,7 +1549,7 @@ public final class LitCoast {
       for (int state = 0; state <= full; state++) {
         open[state] = keeper.oilTable[state] == least ? 1 << coast.wantedCount : 0;
       }
-      for (int i = coast.wantedCount - 1; i >= 0; i--) {
+      for (int i = coast.wantedCount - 1; i >= 1; i--) {
         for (int state = 0; state <= full; state++) {
           open[state] |= goesOn(state, i) ? 1 << i : 0;
         }

@@ -375,6 +375,13 @@ public final class PromisesTest {
     faultAt(0, "1");
     faultAt(0, "read 1");
     faultAt(0, "readsmix");
+    faultAt(0, "beads 1");
+    faultAt(6, "reads bit");
+    faultAt(6, "reads litz");
+    faultAt(6, "reads zlit");
+    faultAt(9, "reads lit{");
+    faultAt(9, "reads lit`");
+    faultAt(9, "reads 100:");
     faultAt(0, "; reads 1");
     faultAt(5, "reads");
     faultAt(7, "reads  ");
@@ -450,6 +457,9 @@ public final class PromisesTest {
     faultAt(NONE, "reads " + times("[1]+", 20) + "1");
     faultAt(NONE, "reads 1 if " + times("not ", 96) + "1=1");
     faultAt(NONE, times(" ", 393) + "reads 1");
+    faultAt(0, times(";", 400));
+    faultAt(400, times(" ", 394) + "reads ");
+    faultAt(400, "reads " + times("[ ", 8) + times(" ", 378));
     LitCoast x = coast(3, 4, "reads 1 if " + times("not ", 95) + "1=2");
     Due.is("13 many nots", x.count(3), 8);
   }

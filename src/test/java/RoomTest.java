@@ -47,17 +47,14 @@ public final class RoomTest {
     }
   }
 
+  /** As many of the longest LAWS as 512 calls can tell. */
   private static void laws() {
     LitCoast x = new LitCoast();
     x.image(0);
+    String law = "reads " + "lit+".repeat(49) + "1";
     for (int i = 0; i < 20; i++) {
-      for (int j = 0; j < 20; j++) {
-        x.feed(0x72656164, 0x73206c69, 0x742b3b3b, 0, 0);
-        x.end(j * 11 + 11);
-      }
-      x.end(9);
-      x.law();
-      x.learn(0);
+      Due.is("a long law", Due.law(x, law), 0);
+      Due.is("is learnt, by which the DARK alone is READ", x.learn(0), 1);
       x.back(0);
     }
   }
