@@ -26,7 +26,7 @@ final class Due {
   }
 
   /** Puts bytes on the TAPE behind what it has; answers whether all went on. */
-  static boolean tape(LitCoast x, int... bytes) {
+  static boolean tape(Counted x, int... bytes) {
     int before = x.count(6);
     for (int at = 0; at < bytes.length; at += 20) {
       int[] five = new int[5];
@@ -37,12 +37,11 @@ final class Due {
       if (x.feed(five[0], five[1], five[2], five[3], five[4]) < 0) {
         return false;
       }
-      x.end(Math.min(before + at + 20, before + bytes.length));
     }
-    return true;
+    return bytes.length == 0 || x.end(before + bytes.length) >= 0;
   }
 
-  static boolean text(LitCoast x, String text) {
+  static boolean text(Counted x, String text) {
     int[] bytes = new int[text.length()];
     for (int i = 0; i < bytes.length; i++) {
       bytes[i] = text.charAt(i);
@@ -51,14 +50,24 @@ final class Due {
   }
 
   /** A LAW of a text: what law() answers. */
-  static int law(LitCoast x, String text) {
+  static int law(Counted x, String text) {
     text(x, text);
     return x.law();
   }
 
   /** A CODE told as a row: what row() answers. */
-  static int code(LitCoast x, int... news) {
+  static int code(Counted x, int... news) {
     tape(x, news);
     return x.row();
+  }
+
+  /** A TRAIL told as a row: what trail() answers. */
+  static int trail(Counted x, int... states) {
+    tape(x, states);
+    return x.trail();
+  }
+
+  static String times(String text, int many) {
+    return text.repeat(many);
   }
 }

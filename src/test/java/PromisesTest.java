@@ -52,16 +52,16 @@ public final class PromisesTest {
   }
 
   /** Three LAMPS, four NEWS, each STATE READ as the mix of its LAMPS: 0 1 2 3 3 2 1 0. */
-  private static LitCoast mixed() {
-    LitCoast x = new LitCoast();
+  private static Counted mixed() {
+    Counted x = new Counted();
     Due.law(x, "reads mix");
     x.learn(0);
     return x;
   }
 
   /** A coast of so many LAMPS and NEWS with a CODE by a LAW. */
-  private static LitCoast coast(int lamps, int news, String law) {
-    LitCoast x = new LitCoast();
+  private static Counted coast(int lamps, int news, String law) {
+    Counted x = new Counted();
     x.lamps(lamps);
     x.news(news);
     Due.law(x, law);
@@ -69,13 +69,13 @@ public final class PromisesTest {
     return x;
   }
 
-  private static void refusedByNumber(LitCoast x, String what, int got) {
+  private static void refusedByNumber(Counted x, String what, int got) {
     Due.is(what, got, -1);
     Due.is(what + ", status", x.status(), -1);
   }
 
   private static void promise1() {
-    LitCoast x = new LitCoast();
+    Counted x = new Counted();
     Due.is("1 lamps", x.count(0), 3);
     Due.is("1 news", x.count(1), 4);
     for (int what = 2; what <= 12; what++) {
@@ -88,14 +88,14 @@ public final class PromisesTest {
       Due.is("1 oil", x.oil(lamp, 1), 1);
       Due.is("1 broken", x.broken(lamp, 0), 0);
     }
-    Due.is("1 status", new LitCoast().status(), 0);
+    Due.is("1 status", new Counted().status(), 0);
     Due.is("1 dark", x.log(NONE), 0);
     Due.is("1 fault", x.fault(), NONE);
     Due.is("1 NONE", LitCoast.NONE, -1);
   }
 
   private static void promise2() {
-    LitCoast x = mixed();
+    Counted x = mixed();
     x.oil(1, 7);
     x.broken(2, 1);
     x.send(1, 0);
@@ -126,7 +126,7 @@ public final class PromisesTest {
   }
 
   private static void promise3() {
-    LitCoast x = mixed();
+    Counted x = mixed();
     x.oil(1, 7);
     x.broken(2, 1);
     x.send(1, 0);
@@ -151,7 +151,7 @@ public final class PromisesTest {
   }
 
   private static void promise4() {
-    LitCoast x = new LitCoast();
+    Counted x = new Counted();
     Due.is("4 oil", x.oil(0, 99), 1);
     Due.is("4 again", x.oil(0, 0), 99);
     Due.is("4 none", x.oil(0, 5), 0);
@@ -165,7 +165,7 @@ public final class PromisesTest {
     }
     Due.is("4 stays", x.oil(0, 5), 5);
     Due.is("4 status", x.status(), 0);
-    LitCoast y = mixed();
+    Counted y = mixed();
     y.oil(0, 5);
     Due.is("4 a keeper knows", y.next(0, 1, 1), 6);
     y.oil(1, 50);
@@ -173,7 +173,7 @@ public final class PromisesTest {
   }
 
   private static void promise5() {
-    LitCoast x = mixed();
+    Counted x = mixed();
     Due.is("5 broken", x.broken(0, 1), 0);
     Due.is("5 was", x.broken(0, 1), 1);
     Due.is("5 around it", x.next(0, 1, 0), 6);
@@ -194,7 +194,7 @@ public final class PromisesTest {
   }
 
   private static void promise6() {
-    LitCoast x = new LitCoast();
+    Counted x = new Counted();
     Due.is("6 read", x.read(5, 3), NONE);
     Due.is("6 not refused", x.status(), 0);
     Due.is("6 was", x.read(5, 0), 3);
@@ -211,7 +211,7 @@ public final class PromisesTest {
       refusedByNumber(x, "6 odd news", x.read(0, odd));
     }
     Due.is("6 count", x.count(3), 0);
-    LitCoast y = mixed();
+    Counted y = mixed();
     y.send(1, 0);
     Due.is("6 lasts", y.lasts(0), 2);
     y.read(7, 1);
@@ -220,7 +220,7 @@ public final class PromisesTest {
   }
 
   private static void promise7() {
-    LitCoast x = mixed();
+    Counted x = mixed();
     int[] due = {0, 1, 2, 3, 3, 2, 1, 0};
     for (int state = 0; state < 8; state++) {
       Due.is("7 of " + state, x.of(state), due[state]);
@@ -236,7 +236,7 @@ public final class PromisesTest {
   }
 
   private static void promise8() {
-    LitCoast x = new LitCoast();
+    Counted x = new Counted();
     Due.is("8 twenty", x.feed(0x00010203, 0x04050607, 0x00010203, 0x00FFFFFF, -1), 20);
     x.end(8);
     Due.is("8 read", x.row(), 4);
@@ -257,7 +257,7 @@ public final class PromisesTest {
   }
 
   private static void promise9() {
-    LitCoast x = new LitCoast();
+    Counted x = new Counted();
     Due.is("9 of nothing", x.end(0), 0);
     Due.is("9 not so many", x.end(1), NONE);
     x.feed(0x01010101, 0x02020202, 0, 0, 0);
@@ -279,7 +279,7 @@ public final class PromisesTest {
   }
 
   private static void promise10() {
-    LitCoast x = mixed();
+    Counted x = mixed();
     Due.is("10 empty", x.row(), -6);
     Due.is("10 status", x.status(), -6);
     Due.is("10 stays", x.of(7), 0);
@@ -302,7 +302,7 @@ public final class PromisesTest {
   }
 
   private static void promise11() {
-    LitCoast x = new LitCoast();
+    Counted x = new Counted();
     Due.is("11 ahead", x.torn(), 0);
     Due.code(x, 0, 1, 2, 3, 0, 1, 2, 3, 0, 1);
     Due.is("11 torn", x.torn(), 2);
@@ -323,7 +323,7 @@ public final class PromisesTest {
   }
 
   private static void promise12() {
-    LitCoast x = new LitCoast();
+    Counted x = new Counted();
     Due.is("12 empty", x.law(), -6);
     Due.is("12 status", x.status(), -6);
     Due.is("12 fault at the end", x.fault(), 0);
@@ -343,22 +343,14 @@ public final class PromisesTest {
     Due.is("12 count", x.count(2), 6);
     x.learn(4);
     Due.is("12 they stay", x.of(3), 1);
-    LitCoast y = new LitCoast();
+    Counted y = new Counted();
     Due.law(y, "what");
     Due.is("12 tape behind a fault", y.count(6), 0);
     Due.is("12 no law", y.count(2), 0);
   }
 
-  private static String times(String text, int many) {
-    StringBuilder all = new StringBuilder();
-    for (int i = 0; i < many; i++) {
-      all.append(text);
-    }
-    return all.toString();
-  }
-
   private static void faultAt(int place, String text) {
-    LitCoast x = new LitCoast();
+    Counted x = new Counted();
     Due.is("13 law of '" + text + "'", Due.law(x, text), place == NONE ? 0 : -6);
     Due.is("13 fault of '" + text + "'", x.fault(), place);
   }
@@ -419,7 +411,7 @@ public final class PromisesTest {
     faultAt(7, "reads 1" + (char) 0);
     faultAt(7, "reads 1" + (char) 233);
     promise13Limits();
-    LitCoast x = new LitCoast();
+    Counted x = new Counted();
     Due.law(x, "reads 1 x");
     x.row();
     x.trail();
@@ -437,35 +429,35 @@ public final class PromisesTest {
   }
 
   private static void promise13Limits() {
-    faultAt(NONE, times("reads 1;", 11) + "reads 1");
-    faultAt(96, times("reads 1;", 12) + "reads 1");
-    faultAt(97, times("reads 1;", 12) + " 7");
-    faultAt(96, times("reads 1;", 12));
-    faultAt(95, times("reads 1;", 11) + "reads 1,");
-    faultAt(NONE, "reads " + times("1+", 49) + "1");
-    faultAt(106, "reads " + times("1+", 50) + "1");
-    faultAt(106, "reads " + times("1+", 50) + "1]");
-    faultAt(107, "reads " + times("1+", 50) + "[1]");
-    faultAt(NONE, "reads " + times("1+", 24) + "1;reads " + times("1+", 24) + "1");
-    faultAt(115, "reads " + times("1+", 24) + "1;reads " + times("1+", 24) + "1 if 1=1");
-    faultAt(NONE, "reads " + times("[", 8) + "1" + times("]", 8));
-    faultAt(14, "reads " + times("[", 9) + "1" + times("]", 9));
-    faultAt(NONE, "reads 1 if " + times("(", 8) + "1=1" + times(")", 8));
-    faultAt(19, "reads 1 if " + times("(", 9) + "1=1" + times(")", 9));
-    faultAt(NONE, "reads 1 if " + times("(", 4) + times("[", 4) + "1" + times("]", 4) + "=1" + times(")", 4));
-    faultAt(19, "reads 1 if " + times("(", 4) + times("[", 5) + "1" + times("]", 5) + "=1" + times(")", 4));
-    faultAt(NONE, "reads " + times("[1]+", 20) + "1");
-    faultAt(NONE, "reads 1 if " + times("not ", 96) + "1=1");
-    faultAt(NONE, times(" ", 393) + "reads 1");
-    faultAt(0, times(";", 400));
-    faultAt(400, times(" ", 394) + "reads ");
-    faultAt(400, "reads " + times("[ ", 8) + times(" ", 378));
-    LitCoast x = coast(3, 4, "reads 1 if " + times("not ", 95) + "1=2");
+    faultAt(NONE, Due.times("reads 1;", 11) + "reads 1");
+    faultAt(96, Due.times("reads 1;", 12) + "reads 1");
+    faultAt(97, Due.times("reads 1;", 12) + " 7");
+    faultAt(96, Due.times("reads 1;", 12));
+    faultAt(95, Due.times("reads 1;", 11) + "reads 1,");
+    faultAt(NONE, "reads " + Due.times("1+", 49) + "1");
+    faultAt(106, "reads " + Due.times("1+", 50) + "1");
+    faultAt(106, "reads " + Due.times("1+", 50) + "1]");
+    faultAt(107, "reads " + Due.times("1+", 50) + "[1]");
+    faultAt(NONE, "reads " + Due.times("1+", 24) + "1;reads " + Due.times("1+", 24) + "1");
+    faultAt(115, "reads " + Due.times("1+", 24) + "1;reads " + Due.times("1+", 24) + "1 if 1=1");
+    faultAt(NONE, "reads " + Due.times("[", 8) + "1" + Due.times("]", 8));
+    faultAt(14, "reads " + Due.times("[", 9) + "1" + Due.times("]", 9));
+    faultAt(NONE, "reads 1 if " + Due.times("(", 8) + "1=1" + Due.times(")", 8));
+    faultAt(19, "reads 1 if " + Due.times("(", 9) + "1=1" + Due.times(")", 9));
+    faultAt(NONE, "reads 1 if " + Due.times("(", 4) + Due.times("[", 4) + "1" + Due.times("]", 4) + "=1" + Due.times(")", 4));
+    faultAt(19, "reads 1 if " + Due.times("(", 4) + Due.times("[", 5) + "1" + Due.times("]", 5) + "=1" + Due.times(")", 4));
+    faultAt(NONE, "reads " + Due.times("[1]+", 20) + "1");
+    faultAt(NONE, "reads 1 if " + Due.times("not ", 96) + "1=1");
+    faultAt(NONE, Due.times(" ", 393) + "reads 1");
+    faultAt(0, Due.times(";", 400));
+    faultAt(400, Due.times(" ", 394) + "reads ");
+    faultAt(400, "reads " + Due.times("[ ", 8) + Due.times(" ", 378));
+    Counted x = coast(3, 4, "reads 1 if " + Due.times("not ", 95) + "1=2");
     Due.is("13 many nots", x.count(3), 8);
   }
 
   private static void tells(String law, int... due) {
-    LitCoast x = new LitCoast();
+    Counted x = new Counted();
     Due.is("14 law of '" + law + "'", Due.law(x, law), 0);
     int many = 0;
     for (int news : due) {
@@ -519,7 +511,7 @@ public final class PromisesTest {
     tells("reads 1000*1000*1000+1-1000*1000*1000", NONE, NONE, NONE, NONE, NONE, NONE, NONE, NONE);
     tells("reads 1+1000*1000*1000-1000*1000*1000", NONE, NONE, NONE, NONE, NONE, NONE, NONE, NONE);
     tells("reads 1+[1000*1000*1000-1000*1000*1000]", 1, 1, 1, 1, 1, 1, 1, 1);
-    LitCoast x = mixed();
+    Counted x = mixed();
     for (int none : new int[] {1, 6, -1, Integer.MAX_VALUE, Integer.MIN_VALUE}) {
       Due.is("14 no such", x.learn(none), -2);
       Due.is("14 status", x.status(), -2);
@@ -533,7 +525,7 @@ public final class PromisesTest {
   }
 
   private static void promise15() {
-    LitCoast x = mixed();
+    Counted x = mixed();
     Due.is("15 fewest", x.next(0, 3, 0), 4);
     Due.is("15 stays", x.next(1, 1, 0), 1);
     Due.is("15 of alike ones", coast(3, 2, "reads 1 if lit=1").next(0, 1, 0), 1);
@@ -571,7 +563,7 @@ public final class PromisesTest {
    * 2), from 6 also 7: all last 1. So MANNER 2 takes fewer LAMPS, then the lowest.
    */
   private static void lastingThenFewest() {
-    LitCoast x = new LitCoast();
+    Counted x = new Counted();
     x.news(2);
     Due.code(x, 0, 9, 9, 1, 1, 9, 9, 0);
     Due.is("15 lasting, then fewest", x.next(0, 1, 2), 4);
@@ -588,7 +580,7 @@ public final class PromisesTest {
   }
 
   private static void promise16() {
-    LitCoast x = mixed();
+    Counted x = mixed();
     Due.is("16 two", x.ways(0, 1), 2);
     Due.is("16 with itself", x.ways(0, 0), 2);
     Due.is("16 itself alone", x.ways(7, 0), 1);
@@ -608,7 +600,7 @@ public final class PromisesTest {
   }
 
   private static void promise17() {
-    LitCoast x = mixed();
+    Counted x = mixed();
     int[] due = {2, 1, 1, 0, 1, 0, 0, 0};
     for (int state = 0; state < 8; state++) {
       Due.is("17 lasts " + state, x.lasts(state), due[state]);
@@ -617,7 +609,7 @@ public final class PromisesTest {
     Due.is("17 any if it is not read", x.lasts(0), 1);
     x.read(0, 0);
     Due.is("17 as before", x.lasts(0), 2);
-    LitCoast y = coast(8, 2, "reads lit%2");
+    Counted y = coast(8, 2, "reads lit%2");
     for (int state = 0; state < 256; state++) {
       Due.is("17 by twos", y.lasts(state), 8 - Integer.bitCount(state));
     }
@@ -630,16 +622,16 @@ public final class PromisesTest {
     for (int odd : ODD) {
       Due.is("17 odd", x.lasts(odd), NONE);
     }
-    Due.is("17 no code", new LitCoast().lasts(0), 0);
+    Due.is("17 no code", new Counted().lasts(0), 0);
   }
 
-  private static void mean(LitCoast x, int state, long above, long below) {
+  private static void mean(Counted x, int state, long above, long below) {
     Due.is("18 upper of " + state, x.mean(state, 0), above);
     Due.is("18 lower of " + state, x.mean(state, 1), below);
   }
 
   private static void promise18() {
-    LitCoast x = mixed();
+    Counted x = mixed();
     mean(x, 7, 1, 3);
     mean(x, 6, 7, 9);
     mean(x, 1, 53, 27);
@@ -652,11 +644,11 @@ public final class PromisesTest {
     x.broken(2, 1);
     mean(x, 0, 0, 1);
     mean(x, 7, 1, 3);
-    mean(new LitCoast(), 0, 0, 1);
-    LitCoast y = coast(8, 2, "reads lit%2");
+    mean(new Counted(), 0, 0, 1);
+    Counted y = coast(8, 2, "reads lit%2");
     mean(y, 255, 1, 1);
     mean(y, 0, 17, 1);
-    LitCoast one = coast(1, 8, "reads 5 if lit=1");
+    Counted one = coast(1, 8, "reads 5 if lit=1");
     mean(one, 1, 1, 7);
     mean(one, 0, 1, 7);
     one.read(0, 2);
@@ -673,7 +665,7 @@ public final class PromisesTest {
   }
 
   private static void promise19() {
-    LitCoast x = mixed();
+    Counted x = mixed();
     Due.is("19 all", x.reached(NONE), 8);
     Due.is("19 one", x.reached(5), 1);
     x.read(5, NONE);
@@ -693,7 +685,7 @@ public final class PromisesTest {
   }
 
   private static void promise20() {
-    LitCoast x = mixed();
+    Counted x = mixed();
     Due.is("20 many", x.failing(NONE), 3);
     Due.is("20 first", x.failing(0), 1);
     Due.is("20 second", x.failing(1), 0);
@@ -702,28 +694,28 @@ public final class PromisesTest {
     for (int odd : ODD) {
       Due.is("20 odd", x.failing(odd), NONE);
     }
-    LitCoast none = new LitCoast();
+    Counted none = new Counted();
     Due.is("20 at once", none.failing(NONE), 1);
     Due.is("20 the lowest", none.failing(0), 0);
     none.read(0, 0);
     Due.is("20 other than what is read", none.failing(0), 1);
-    LitCoast y = coast(8, 2, "reads lit%2");
+    Counted y = coast(8, 2, "reads lit%2");
     Due.is("20 the longest", y.failing(NONE), 9);
     Due.is("20 its last", y.failing(8), 1);
     Due.is("20 behind its last", y.failing(9), NONE);
     // 1 by LAMP 0 or 1; 2 by both: from the DARK 0 can't be SENT at all.
-    LitCoast z = new LitCoast();
+    Counted z = new Counted();
     Due.code(z, 3, 1, 1, 2);
     Due.is("20 none ahead of least", z.failing(NONE), 1);
     Due.is("20 that for which there is none", z.failing(0), 0);
   }
 
   private static void promise21() {
-    LitCoast x = mixed();
+    Counted x = mixed();
     Due.is("21 hurts", x.hurts(0), 1);
     Due.is("21 not for good", x.lasts(0), 2);
     Due.is("21 not broken", x.broken(0, 0), 0);
-    LitCoast y = coast(4, 2, "reads lit%2");
+    Counted y = coast(4, 2, "reads lit%2");
     Due.is("21 by twos", y.hurts(3), 3);
     y.broken(3, 1);
     Due.is("21 the same", y.hurts(3), 3);
@@ -737,7 +729,7 @@ public final class PromisesTest {
   }
 
   private static void promise22() {
-    LitCoast x = new LitCoast();
+    Counted x = new Counted();
     Due.is("22 all", x.codes(3, 4, 0), 65536);
     Due.is("22 all of three", x.codes(3, 3, 0), 6561);
     Due.is("22 all of two", x.codes(2, 4, 0), 256);
@@ -747,7 +739,7 @@ public final class PromisesTest {
     Due.is("22 beyond", x.codes(3, 2, 4), 0);
     Due.is("22 far beyond", x.codes(3, 4, 8), 0);
     x.broken(0, 1);
-    Due.is("22 no lamp is broken", x.codes(3, 2, 3), new LitCoast().codes(3, 2, 3));
+    Due.is("22 no lamp is broken", x.codes(3, 2, 3), new Counted().codes(3, 2, 3));
     for (int t = 0; t <= 8; t++) {
       Due.is("22 by hand, 2 2 " + t, x.codes(2, 2, t), countByHand(2, 2, t));
       Due.is("22 by hand, 3 2 " + t, x.codes(3, 2, t), countByHand(3, 2, t));
@@ -765,11 +757,8 @@ public final class PromisesTest {
     Due.is("22 not refused", x.count(7), 0);
   }
 
-  /** Every CODE told to an object and asked. */
+  /** Every CODE told to an object of its own and asked. */
   private static int countByHand(int n, int k, int t) {
-    LitCoast x = new LitCoast();
-    x.lamps(n);
-    x.news(k);
     int states = 1 << n;
     int all = 1;
     for (int i = 0; i < states; i++) {
@@ -777,6 +766,9 @@ public final class PromisesTest {
     }
     int many = 0;
     for (int number = 0; number < all; number++) {
+      Counted x = new Counted();
+      x.lamps(n);
+      x.news(k);
       int rest = number;
       for (int state = states - 1; state >= 0; state--) {
         x.read(state, rest % k);
@@ -788,7 +780,7 @@ public final class PromisesTest {
   }
 
   private static void promise23() {
-    LitCoast x = new LitCoast();
+    Counted x = new Counted();
     Due.is("23 make", x.make(3, 4, 1), 0);
     Due.is("23 status", x.status(), 0);
     // The first by which 1, 2 and 3 can be SENT once from a DARK that is READ as 0.
@@ -810,7 +802,7 @@ public final class PromisesTest {
       refusedByNumber(x, "23 wrong", x.make(w[0], w[1], w[2]));
     }
     Due.is("23 stays", x.of(7), 3);
-    LitCoast y = new LitCoast();
+    Counted y = new Counted();
     y.lamps(2);
     y.news(2);
     y.broken(0, 1);
@@ -825,7 +817,7 @@ public final class PromisesTest {
   }
 
   private static void promise24() {
-    LitCoast x = mixed();
+    Counted x = mixed();
     Due.is("24 send", x.send(1, 0), 1);
     Due.is("24 status", x.status(), 0);
     Due.is("24 none more", x.send(1, 0), 0);
@@ -849,14 +841,14 @@ public final class PromisesTest {
     Due.is("24 status", x.status(), -5);
     Due.is("24 can't is ahead of no room", x.send(1, 0), -3);
     Due.is("24 stays", x.count(4), 24);
-    LitCoast y = mixed();
+    Counted y = mixed();
     y.oil(0, 5);
     Due.is("24 by oil", y.send(1, 1), 2);
     Due.is("24 to six", y.log(NONE), 6);
   }
 
   private static void promise25() {
-    LitCoast x = mixed();
+    Counted x = mixed();
     Due.is("25 dark", x.dawn(), 0);
     x.send(1, 0);
     x.send(0, 0);
@@ -870,7 +862,7 @@ public final class PromisesTest {
   }
 
   private static void promise26() {
-    LitCoast x = mixed();
+    Counted x = mixed();
     Due.is("26 empty", x.log(0), NONE);
     Due.is("26 dark", x.log(NONE), 0);
     x.send(1, 0);
@@ -887,7 +879,7 @@ public final class PromisesTest {
   }
 
   private static void promise27() {
-    LitCoast x = mixed();
+    Counted x = mixed();
     Due.is("27 dark", x.burnt(), 0);
     x.send(1, 0);
     Due.is("27 one", x.burnt(), 1);
@@ -904,7 +896,7 @@ public final class PromisesTest {
   }
 
   private static void promise28() {
-    LitCoast x = mixed();
+    Counted x = mixed();
     Due.is("28 empty", x.trail(), -6);
     Due.is("28 status", x.status(), -6);
     Due.tape(x, 1, 7);
@@ -927,14 +919,13 @@ public final class PromisesTest {
     Due.is("28 lamps leave it", x.count(12), 30);
   }
 
-  private static void judged(LitCoast x, int due, int manner, int... states) {
-    Due.tape(x, states);
-    x.trail();
+  private static void judged(Counted x, int due, int manner, int... states) {
+    Due.trail(x, states);
     Due.is("29 judged by " + manner, x.judge(manner), due);
   }
 
   private static void promise29() {
-    LitCoast x = mixed();
+    Counted x = mixed();
     Due.is("29 no trail", x.judge(0), NONE);
     judged(x, NONE, 0, 1, 7);
     judged(x, NONE, 0, 0, 0, 1, 1, 5, 7, 7);
@@ -962,7 +953,7 @@ public final class PromisesTest {
   }
 
   private static void promise30() {
-    LitCoast x = mixed();
+    Counted x = mixed();
     Due.is("30 none", x.rows(0, 0, 0), 1);
     Due.is("30 none elsewhere", x.rows(0, 1, 0), 0);
     Due.is("30 one", x.rows(1, 4, 0), 1);
@@ -974,9 +965,9 @@ public final class PromisesTest {
     x.oil(0, 5);
     Due.is("30 by oil", x.rows(1, 6, 1), 1);
     Due.is("30 by oil then", x.rows(2, 7, 1), 3);
-    LitCoast y = coast(8, 2, "reads lit%2");
+    Counted y = coast(8, 2, "reads lit%2");
     Due.is("30 the longest", y.rows(8, 255, 2), 1);
-    LitCoast z = coast(8, 8, "reads first+1 if first<7");
+    Counted z = coast(8, 8, "reads first+1 if first<7");
     Due.is("30 of an unread dark", z.rows(0, 0, 3), 1);
     Due.is("30 any then", coast(1, 2, "reads 0 if lit=1").rows(1, 1, 0), 1);
     int[][] wrong = {{-1, 0, 0}, {9, 0, 0}, {1, 8, 0}, {1, -1, 0}, {1, 0, 4}, {1, 0, -1}};
@@ -991,7 +982,7 @@ public final class PromisesTest {
   }
 
   private static void promise31() {
-    LitCoast x = mixed();
+    Counted x = mixed();
     Due.is("31 first", x.could(2, 7, 0, 0, 1), 1);
     Due.is("31 not first", x.could(2, 7, 0, 0, 0), 0);
     Due.is("31 last", x.could(2, 7, 0, 1, 0), 3);
@@ -1007,7 +998,7 @@ public final class PromisesTest {
       Due.is("31 odd j", x.could(2, 7, 0, odd, 0), NONE);
       Due.is("31 odd news", x.could(2, 7, 0, 0, odd), NONE);
     }
-    LitCoast y = coast(8, 4, "reads sum%4");
+    Counted y = coast(8, 4, "reads sum%4");
     for (int t = 1; t <= 8; t++) {
       for (int j = 0; j < t; j++) {
         long all = 0;
@@ -1020,7 +1011,7 @@ public final class PromisesTest {
   }
 
   private static void promise32() {
-    LitCoast x = mixed();
+    Counted x = mixed();
     Due.is("32 seen", x.maybe(1, 0), 2);
     Due.is("32 one more", x.maybe(1, 1), 14);
     Due.is("32 all", x.maybe(1, 2), 15);
@@ -1044,8 +1035,8 @@ public final class PromisesTest {
   }
 
   private static void promise33() {
-    Due.is("33 no code", new LitCoast().safe(), 8);
-    LitCoast x = mixed();
+    Due.is("33 no code", new Counted().safe(), 8);
+    Counted x = mixed();
     Due.is("33 none", x.safe(), 0);
     x.lamps(8);
     Due.code(x, 0);
@@ -1070,7 +1061,7 @@ public final class PromisesTest {
   }
 
   private static void promise34() {
-    LitCoast x = mixed();
+    Counted x = mixed();
     Due.is("34 none", x.spy(0), 1);
     Due.is("34 one", x.spy(1), 14);
     Due.is("34 two", x.spy(2), 14);
@@ -1086,12 +1077,12 @@ public final class PromisesTest {
     for (int odd : ODD) {
       Due.is("34 odd", x.spy(odd), NONE);
     }
-    LitCoast y = coast(8, 8, "reads 7");
+    Counted y = coast(8, 8, "reads 7");
     Due.is("34 eight", y.spy(8), 128);
   }
 
   private static void promise35() {
-    LitCoast x = mixed();
+    Counted x = mixed();
     for (int i = 1; i <= 16; i++) {
       Due.is("35 want", x.want(i % 4), i);
       Due.is("35 status", x.status(), 0);
@@ -1107,7 +1098,7 @@ public final class PromisesTest {
   }
 
   private static void promise36() {
-    LitCoast x = mixed();
+    Counted x = mixed();
     Due.is("36 nothing", x.unwant(), 0);
     x.want(1);
     x.want(9);
@@ -1119,7 +1110,7 @@ public final class PromisesTest {
   }
 
   private static void promise37() {
-    LitCoast x = mixed();
+    Counted x = mixed();
     Due.is("37 nothing", x.cheap(0), 0);
     Due.is("37 one way", x.cheap(1), 1);
     x.want(1);
@@ -1146,7 +1137,7 @@ public final class PromisesTest {
     for (int odd : ODD) {
       Due.is("37 odd", x.cheap(odd), NONE);
     }
-    LitCoast y = coast(8, 2, "reads 1");
+    Counted y = coast(8, 2, "reads 1");
     for (int lamp = 0; lamp < 8; lamp++) {
       y.oil(lamp, 0);
     }
@@ -1165,7 +1156,7 @@ public final class PromisesTest {
   }
 
   private static void promise38() {
-    LitCoast x = mixed();
+    Counted x = mixed();
     Due.is("38 nothing", x.plan(0), NONE);
     x.want(1);
     x.want(0);
@@ -1187,7 +1178,7 @@ public final class PromisesTest {
     Due.is("38 can't", x.plan(0), NONE);
     Due.is("38 can't at all", x.plan(2), NONE);
     // The first NEWS is cheapest by LAMP 0, but what comes behind is not.
-    LitCoast y = new LitCoast();
+    Counted y = new Counted();
     y.news(2);
     Due.code(y, 9, 0, 0, 9, 9, 1, 1, 9);
     y.oil(0, 8);
@@ -1205,7 +1196,7 @@ public final class PromisesTest {
   }
 
   private static void promise39() {
-    LitCoast x = mixed();
+    Counted x = mixed();
     Due.is("39 night", x.night(0, 10, 0), 5);
     Due.is("39 status", x.status(), 0);
     Due.is("39 as many", x.night(0, 3, 0), 3);
@@ -1225,7 +1216,7 @@ public final class PromisesTest {
       refusedByNumber(x, "39 odd many", x.night(0, odd, 0));
       refusedByNumber(x, "39 odd manner", x.night(0, 1, odd));
     }
-    LitCoast y = new LitCoast();
+    Counted y = new Counted();
     y.news(2);
     Due.code(y, 0, 1);
     y.lamps(8);
@@ -1247,7 +1238,7 @@ public final class PromisesTest {
   }
 
   private static void promise40() {
-    LitCoast x = mixed();
+    Counted x = mixed();
     Due.is("40 no night", x.drawn(0), NONE);
     Due.is("40 nothing unsent", x.drawn(NONE), NONE);
     x.night(0, 10, 0);
@@ -1272,7 +1263,7 @@ public final class PromisesTest {
     }
   }
 
-  private static void s40(LitCoast x, int[] due) {
+  private static void s40(Counted x, int[] due) {
     for (int i = 0; i < due.length; i++) {
       Due.is("40 state " + i, x.drawn(i), due[i]);
     }
@@ -1280,7 +1271,7 @@ public final class PromisesTest {
   }
 
   private static void promise41() {
-    LitCoast x = mixed();
+    Counted x = mixed();
     Due.is("41 image", x.image(0), 0);
     Due.is("41 status", x.status(), 0);
     Due.is("41 other", x.image(1), 0);
@@ -1299,7 +1290,7 @@ public final class PromisesTest {
   }
 
   private static void promise42() {
-    LitCoast x = mixed();
+    Counted x = mixed();
     Due.is("42 not kept", x.back(0), -2);
     Due.is("42 status", x.status(), -2);
     refusedByNumber(x, "42 no such", x.back(2));
@@ -1345,7 +1336,7 @@ public final class PromisesTest {
   }
 
   private static void lawsOfTwoImages() {
-    LitCoast x = new LitCoast();
+    Counted x = new Counted();
     x.image(0);
     Due.law(x, "reads 1");
     x.image(1);
@@ -1361,7 +1352,7 @@ public final class PromisesTest {
   }
 
   private static void promise43() {
-    LitCoast x = mixed();
+    Counted x = mixed();
     x.send(1, 0);
     x.want(1);
     x.want(2);
@@ -1405,7 +1396,7 @@ public final class PromisesTest {
   }
 
   private static void promise44() {
-    LitCoast x = mixed();
+    Counted x = mixed();
     Due.is("44 not", x.status(), 0);
     statusOf(x, x.lamps(0), -1);
     x.lamps(3);
@@ -1456,13 +1447,13 @@ public final class PromisesTest {
     leavesStatus(x, -2);
   }
 
-  private static void statusOf(LitCoast x, int got, int due) {
+  private static void statusOf(Counted x, int got, int due) {
     Due.is("44 answer", got, due);
     Due.is("44 status", x.status(), due);
   }
 
   /** Calls that are not of those whose refusal status() tells. */
-  private static void leavesStatus(LitCoast x, int due) {
+  private static void leavesStatus(Counted x, int due) {
     x.of(0);
     x.feed(0, 0, 0, 0, 0);
     x.end(0);

@@ -31,7 +31,7 @@ public final class RoomTest {
   }
 
   private static void questions() {
-    LitCoast x = new LitCoast();
+    Counted x = new Counted();
     x.lamps(8);
     x.news(8);
     x.feed(0x72656164, 0x73206d69, 0x78000000, 0, 0);
@@ -49,7 +49,7 @@ public final class RoomTest {
 
   /** As many of the longest LAWS as 512 calls can tell. */
   private static void laws() {
-    LitCoast x = new LitCoast();
+    Counted x = new Counted();
     x.image(0);
     String law = "reads " + "lit+".repeat(49) + "1";
     for (int i = 0; i < 20; i++) {
@@ -60,7 +60,7 @@ public final class RoomTest {
   }
 
   private static void images() {
-    LitCoast x = new LitCoast();
+    Counted x = new Counted();
     for (int i = 0; i < 256; i++) {
       x.image(i % 2);
       x.back(i % 2);
