@@ -42,6 +42,9 @@ public final class BoundsTest {
     imagesOfTheFirst();
     counts();
     statuses();
+    askedAheadAndBehind();
+    askedFirst();
+    lastCall();
     Due.close();
   }
 
@@ -776,6 +779,33 @@ public final class BoundsTest {
     Due.is("by no lamps first", y.plan(0), 0);
     Due.is("by no lamps then", y.plan(1), 0);
     Due.is("in many ways", y.cheap(1), 9);
+    plannedOneByOne();
+  }
+
+  private static void plannedOneByOne() {
+    Counted x = coast(4, 2);
+    x.read(1, 0);
+    x.read(2, 0);
+    x.read(6, 1);
+    x.read(9, 1);
+    x.want(0);
+    x.want(1);
+    Due.is("of two rows the first", x.plan(0), 1);
+    Due.is("then what has all that was lit", x.plan(1), 9);
+    Due.is("two rows", x.cheap(1), 2);
+    x.oil(3, 2);
+    Due.is("the cheaper row", x.plan(0), 2);
+    Due.is("and its second", x.plan(1), 6);
+    Counted y = coast(2, 2);
+    Due.code(y, 9, 9, 0, 1);
+    y.oil(0, 0);
+    y.oil(1, 0);
+    y.want(0);
+    y.want(1);
+    Due.is("without oil, yet by lamps", y.plan(0), 2);
+    Due.is("without oil, yet by all lamps", y.plan(1), 3);
+    Due.is("without oil", y.cheap(0), 0);
+    Due.is("without oil, one way", y.cheap(1), 1);
   }
 
   /** One NEWS for each of eight LAMPS, so that a STATE tells what was drawn. */
@@ -1066,5 +1096,137 @@ public final class BoundsTest {
       case 13: x.image(0); break;
       default: x.back(0); break;
     }
+  }
+
+  /** All that hangs on the CODE and the LAMPS. */
+  private static void asked(String when, Counted x, int... due) {
+    long[] got = {x.lasts(0), x.mean(0, 0), x.mean(0, 1), x.next(0, 1, 0), x.next(0, 1, 1), x.next(0, 1, 2),
+        x.next(0, 1, 3), x.failing(NONE), x.reached(NONE), x.safe(), x.hurts(0), x.cheap(0), x.cheap(1), x.plan(0)};
+    for (int i = 0; i < due.length; i++) {
+      Due.is(when + ", question " + i, got[i], due[i]);
+    }
+    Due.is(when + ", questions", due.length, got.length);
+  }
+
+  private static final int[] OF_MIX = {2, 89, 27, 1, 1, 1, 1, 3, 8, 0, 1, 1, 1, 1};
+  private static final int[] OF_NO_CODE = {0, 0, 1, NONE, NONE, NONE, NONE, 1, 1, 8, 0, NONE, 0, NONE};
+  private static final int[] OF_NOTHING_WANTED = {0, 0, 1, NONE, NONE, NONE, NONE, 1, 1, 8, 0, 0, 1, NONE};
+  /** Every STATE is READ as 0: 0 can be SENT for ever, 1 never. */
+  private static final int[] OF_ONE = {0, 1, 3, NONE, NONE, NONE, NONE, 1, 8, 8, 0, NONE, 0, NONE};
+
+  private static Counted askedAhead() {
+    Counted x = new Counted();
+    Due.law(x, "reads mix");
+    Due.law(x, "reads 0");
+    Due.law(x, "reads 9");
+    x.learn(0);
+    x.want(1);
+    asked("ahead", x, OF_MIX);
+    return x;
+  }
+
+  /** What was asked ahead of a change is not answered behind it. */
+  private static void askedAheadAndBehind() {
+    Counted x = askedAhead();
+    x.lamps(3);
+    asked("behind lamps", x, OF_NOTHING_WANTED);
+    x = askedAhead();
+    x.news(4);
+    asked("behind news", x, OF_NOTHING_WANTED);
+    x = askedAhead();
+    x.learn(1);
+    asked("behind learn", x, OF_ONE);
+    x.learn(2);
+    asked("behind learn, none", x, OF_NO_CODE);
+    x.learn(0);
+    asked("behind learn, as ahead", x, OF_MIX);
+    x = askedAhead();
+    x.make(3, 4, 0);
+    asked("behind make", x, OF_ONE);
+    x = askedAhead();
+    Due.code(x, 9);
+    asked("behind row", x, OF_NO_CODE);
+    x = askedAhead();
+    x.image(0);
+    x.lamps(3);
+    asked("ahead of back", x, OF_NOTHING_WANTED);
+    x.back(0);
+    asked("behind back", x, OF_MIX);
+    for (int state = 0; state < 8; state++) {
+      x.read(state, 0);
+    }
+    asked("behind read", x, OF_ONE);
+    askedBehindLamps();
+  }
+
+  private static void askedBehindLamps() {
+    Counted x = askedAhead();
+    x.broken(0, 1);
+    x.broken(1, 1);
+    x.broken(2, 1);
+    asked("behind broken", x, 0, 1, 3, NONE, NONE, NONE, NONE, 1, 1, 8, 0, NONE, 0, NONE);
+    for (int lamp = 0; lamp < 3; lamp++) {
+      x.broken(lamp, 0);
+    }
+    asked("behind mended", x, OF_MIX);
+    x.oil(0, 5);
+    asked("behind oil", x, 2, 89, 27, 1, 6, 1, 1, 3, 8, 0, 1, 2, 1, 6);
+    x.oil(0, 1);
+    asked("behind oil, as ahead", x, OF_MIX);
+    x.unwant();
+    Due.is("behind unwant", x.cheap(0), 0);
+    x.want(0);
+    Due.is("behind want", x.cheap(0), 0);
+    Due.is("behind want, plan", x.plan(0), 0);
+    x.want(1);
+    Due.is("behind want, two", x.cheap(0), 1);
+    Due.is("behind want, two, plan", x.plan(1), 1);
+  }
+
+  /** Four LAMPS, two NEWS: 1 by 1, from which nothing comes, by 6, from which 0 comes by 14. */
+  private static Counted crossing() {
+    Counted x = coast(4, 2);
+    Due.code(x, 0, 1, 9, 9, 9, 9, 1, 9, 9, 9, 9, 9, 9, 9, 0, 9);
+    x.oil(0, 50);
+    return x;
+  }
+
+  /** Each as the first question of all. */
+  private static void askedFirst() {
+    int[] due = {1, 6, 6, 6};
+    for (int manner = 0; manner < 4; manner++) {
+      Due.is("next first", crossing().next(0, 1, manner), due[manner]);
+      Due.is("send first", crossing().send(1, manner), Integer.bitCount(due[manner]));
+      Counted x = crossing();
+      Due.is("night first", x.night(0, 1, manner), 1);
+      Due.is("night first, state", x.drawn(0), due[manner]);
+      x = crossing();
+      Due.trail(x, due[manner]);
+      Due.is("judge first", x.judge(manner), NONE);
+      Due.is("rows first", crossing().rows(1, due[manner], manner), 1);
+      Due.is("could first", crossing().could(1, due[manner], manner, 0, 1), 1);
+    }
+    Due.is("failing first", crossing().failing(NONE), 3);
+    Due.is("failing first, its second", crossing().failing(1), 0);
+    Due.is("failing first, its last", crossing().failing(2), 1);
+    Due.is("lasts first", crossing().lasts(0), 2);
+    Due.is("mean first", crossing().mean(0, 0), 5);
+    Due.is("hurts first", crossing().hurts(1), 1);
+    Counted y = crossing();
+    y.want(1);
+    Due.is("plan first", y.plan(0), 6);
+    Counted z = crossing();
+    z.want(1);
+    Due.is("cheap first", z.cheap(0), 2);
+  }
+
+  /** 512 calls are answered as the first ones are. */
+  private static void lastCall() {
+    Counted x = new Counted();
+    for (int i = 0; i < 510; i++) {
+      Due.is("call " + i, x.lamps(9), -1);
+    }
+    Due.is("call 511", x.count(7), 510);
+    Due.is("call 512", x.status(), -1);
   }
 }

@@ -27,6 +27,7 @@ public final class LawsTest {
     whatCanStillMatter();
     whatHolds();
     whatIsTold();
+    eachTextByItself();
     Due.close();
   }
 
@@ -538,6 +539,26 @@ public final class LawsTest {
       tells(1, k, "reads 1;reads 256", NONE);
       tells(1, k, "reads 1;reads 1000", NONE);
       tells(1, k, "reads news-1", k - 1);
+    }
+  }
+
+  /** What a TEXT may have at most is for each TEXT, whatever was read ahead of it. */
+  private static void eachTextByItself() {
+    String most = Due.times("reads 1 if lit<2;", 11) + "reads lit+1 if lit+1+1+1+1+1+1+1>" + Due.times("1+", 6) + "1";
+    String deep = "reads " + Due.times("[", 8) + "2" + Due.times("]", 8);
+    Counted x = new Counted();
+    for (int i = 0; i < 6; i++) {
+      Due.is("a fault in between", Due.law(x, deep + "+["), -6);
+      Due.is("its place", x.fault(), deep.length() + 2);
+      Due.is("law " + i, Due.law(x, i % 2 == 0 ? most : deep), i);
+    }
+    for (int i = 0; i < 6; i++) {
+      boolean isMost = i % 2 == 0;
+      Due.is("learn " + i, x.learn(i), isMost ? 7 : 8);
+      Due.is("of 0 by " + i, x.of(0), isMost ? 1 : 2);
+      Due.is("of 1 by " + i, x.of(1), 2);
+      Due.is("of 3 by " + i, x.of(3), isMost ? 3 : 2);
+      Due.is("of 7 by " + i, x.of(7), isMost ? NONE : 2);
     }
   }
 }

@@ -1,36 +1,59 @@
-import java.util.ArrayList;
-import java.util.List;
+import java.util.LinkedHashMap;
+import java.util.Map;
+import java.util.Set;
+import java.util.TreeSet;
 
 /**
- * All that can be seen of an object by calls, as far as 512 of them go: the answers in a list, each
- * with its call. Two objects with which the same was done must look the same.
+ * All that can be seen of an object by calls, as far as 512 of them go: each question with its
+ * answer. Two objects with which the same was done must look the same.
  */
 final class Look {
   private static final int NONE = Counted.NONE;
 
   private final Counted x;
-  private final List<String> seen = new ArrayList<>();
+  private final Map<String, Long> seen = new LinkedHashMap<>();
+  private String section = "";
 
   private Look(Counted x) {
     this.x = x;
   }
 
   /** The object can't be used any more then. */
-  static List<String> at(Counted x) {
+  static Map<String, Long> at(Counted x) {
     Look look = new Look(x);
     look.numbers();
     look.night();
     look.code();
     look.sending();
     look.errand();
-    look.underTheCode();
+    look.lampsOneByOne();
+    look.tape();
+    look.laws();
     look.image(0);
     look.image(1);
     return look.seen;
   }
 
-  private void see(String call, long answer) {
-    seen.add(call + " -> " + answer);
+  /** The questions that two objects do not answer alike. */
+  static Set<String> unlike(Counted one, Counted other) {
+    Map<String, Long> first = at(one);
+    Map<String, Long> second = at(other);
+    Set<String> unlike = new TreeSet<>();
+    Set<String> all = new TreeSet<>(first.keySet());
+    all.addAll(second.keySet());
+    for (String question : all) {
+      Long answer = first.get(question);
+      if (answer == null || !answer.equals(second.get(question))) {
+        unlike.add(question);
+      }
+    }
+    return unlike;
+  }
+
+  private void see(String question, long answer) {
+    if (seen.put(section + question, answer) != null) {
+      throw new IllegalStateException(section + question + " is asked twice");
+    }
   }
 
   private int[] states() {
@@ -78,10 +101,11 @@ final class Look {
 
   private void sending() {
     int news = x.count(1);
+    int[] tolds = news == 2 ? new int[] {0, 1} : new int[] {0, 1, news - 1};
     for (int state : states()) {
       see("lasts " + state, x.lasts(state));
       see("mean " + state, x.mean(state, 0));
-      for (int told : new int[] {0, 1, news - 1}) {
+      for (int told : tolds) {
         for (int manner = 0; manner < 4; manner++) {
           see("next " + state + " " + told + " " + manner, x.next(state, told, manner));
         }
@@ -102,38 +126,47 @@ final class Look {
     }
   }
 
-  /** What can be seen only by changing it: OIL, BROKEN ones, LAWS, the TAPE. */
-  private void underTheCode() {
+  private void lampsOneByOne() {
     int lamps = x.count(0);
     for (int lamp = 0; lamp < lamps; lamp++) {
       see("oil " + lamp, x.oil(lamp, 1));
       see("broken " + lamp, x.broken(lamp, 0));
     }
-    see("row of the tape", x.row());
-    see("torn then", x.torn());
+  }
+
+  private void tape() {
+    section = "tape: ";
+    see("row", x.row());
+    see("torn", x.torn());
     code();
+  }
+
+  private void laws() {
+    section = "laws: ";
     int laws = x.count(2);
+    int state = (1 << x.count(0)) - 2;
     for (int law = 0; law <= laws; law++) {
       see("learn " + law, x.learn(law));
-      see("of the last but one", x.of((1 << lamps) - 2));
+      see("of by " + law, x.of(state));
     }
   }
 
   private void image(int k) {
-    see("back " + k, x.back(k));
+    section = "image " + k + ": ";
+    boolean kept = x.back(k) == 0;
+    see("back", kept ? 1 : 0);
+    if (!kept) {
+      return;
+    }
     for (int what = 0; what < 6; what++) {
-      see("count then " + what, x.count(what));
+      see("count " + what, x.count(what));
     }
-    see("log then", x.log(NONE));
-    see("log then 0", x.log(0));
-    see("plan then 0", x.plan(0));
+    see("log NONE", x.log(NONE));
+    see("log 0", x.log(0));
+    see("plan 0", x.plan(0));
     code();
-    int lamps = x.count(0);
-    for (int lamp = 0; lamp < lamps; lamp++) {
-      see("oil then " + lamp, x.oil(lamp, 1));
-      see("broken then " + lamp, x.broken(lamp, 0));
-    }
-    see("learn then", x.learn(0));
-    see("of then", x.of(1));
+    lampsOneByOne();
+    see("learn 0", x.learn(0));
+    see("of by 0", x.of(1));
   }
 }

@@ -1,4 +1,3 @@
-import java.util.List;
 import java.util.function.Consumer;
 import java.util.function.ToLongFunction;
 
@@ -27,6 +26,9 @@ public final class RefusalsTest {
     noneOfSending();
     noneOfRows();
     noneOfTheRest();
+    lawsThatAreRefused();
+    questionsChangeNothing();
+    callsChangeTheirOwn();
     Due.close();
   }
 
@@ -184,21 +186,26 @@ public final class RefusalsTest {
   }
 
   private static void looksAsWithout(String what, Consumer<Counted> recipe, ToLongFunction<Counted> made) {
+    changesOnly(what, recipe, made, x -> { });
+  }
+
+  /** Whether a call does no more than another, but for what begins with one of some words. */
+  private static void changesOnly(String what, Consumer<Counted> recipe, ToLongFunction<Counted> made,
+      Consumer<Counted> other, String... words) {
     Counted with = new Counted();
     recipe.accept(with);
     made.applyAsLong(with);
     Counted without = new Counted();
     recipe.accept(without);
-    List<String> due = Look.at(without);
-    List<String> got = Look.at(with);
-    if (!due.equals(got)) {
-      for (int i = 0; i < Math.min(due.size(), got.size()); i++) {
-        if (!due.get(i).equals(got.get(i))) {
-          System.out.println(what + " changed " + due.get(i) + " to " + got.get(i));
-        }
+    other.accept(without);
+    for (String question : Look.unlike(with, without)) {
+      boolean mayChange = false;
+      for (String word : words) {
+        mayChange |= question.startsWith(word);
       }
+      Due.so(what + " changes " + question, mayChange);
     }
-    Due.so(what + " changes nothing", due.equals(got));
+    Due.so(what + " was looked at", true);
   }
 
   private static void numbersOfTheCoast() {
@@ -434,5 +441,125 @@ public final class RefusalsTest {
     noneAtFirst("drawn(0)", x -> x.drawn(0));
     noneAtFirst("drawn(NONE)", x -> x.drawn(NONE));
     noneAtFirst("judge(0), no TRAIL", x -> x.judge(0));
+  }
+
+  /** A LAW that is REFUSED empties the TAPE; if its TEXT was read, FAULT tells of it. */
+  private static void lawsThatAreRefused() {
+    changesOnly("law(), -6", RefusalsTest::rich, Counted::law, x -> x.end(0), "fault");
+    changesOnly("law(), -5", RefusalsTest::full, Counted::law, x -> x.end(0));
+    Counted x = new Counted();
+    rich(x);
+    Due.is("rich: law()", x.law(), -6);
+    Due.is("rich: status behind law()", x.status(), -6);
+    Due.is("rich: fault behind law()", x.fault(), 0);
+    Due.is("rich: tape behind law()", x.count(6), 0);
+    Due.is("rich: count 11 behind law()", x.count(11), 3);
+    Counted y = new Counted();
+    full(y);
+    Due.is("full: law()", y.law(), -5);
+    Due.is("full: status behind law()", y.status(), -5);
+    Due.is("full: fault behind law()", y.fault(), NONE);
+    Due.is("full: tape behind law()", y.count(6), 0);
+    Due.is("full: count 10 behind law()", y.count(10), 1);
+    Due.is("full: count 11 behind law()", y.count(11), 0);
+  }
+
+  private static void question(String call, ToLongFunction<Counted> made) {
+    looksAsWithout("rich: " + call, RefusalsTest::rich, made);
+    looksAsWithout("full: " + call, RefusalsTest::full, made);
+    for (int status : new int[] {0, -2}) {
+      Counted x = new Counted();
+      rich(x);
+      notRefused(x);
+      if (status == -2) {
+        x.learn(6);
+      }
+      long[] before = refusals(x);
+      made.applyAsLong(x);
+      Due.is("status behind " + call, x.status(), status);
+      long[] then = refusals(x);
+      for (int i = 0; i < BY.length; i++) {
+        Due.is("count " + (7 + i) + " behind " + call, then[i], before[i]);
+      }
+    }
+  }
+
+  /** Calls that ask leave all as it is, status() and the counts of refusals, too. */
+  private static void questionsChangeNothing() {
+    question("of", x -> x.of(1));
+    question("torn", Counted::torn);
+    question("fault", Counted::fault);
+    for (int m = 0; m < 4; m++) {
+      int manner = m;
+      question("next", x -> x.next(0, 1, manner));
+      question("judge", x -> x.judge(manner));
+      question("rows", x -> x.rows(2, 3, manner));
+      question("could", x -> x.could(2, 3, manner, 1, 3));
+    }
+    question("ways", x -> x.ways(0, 1));
+    question("lasts", x -> x.lasts(0));
+    question("mean", x -> x.mean(0, 0));
+    question("mean", x -> x.mean(0, 1));
+    question("reached", x -> x.reached(1));
+    question("reached, how many", x -> x.reached(NONE));
+    question("failing", x -> x.failing(0));
+    question("failing, how many", x -> x.failing(NONE));
+    question("hurts", x -> x.hurts(0));
+    question("codes", x -> x.codes(2, 3, 1));
+    question("log", x -> x.log(0));
+    question("log, what is", x -> x.log(NONE));
+    question("burnt", Counted::burnt);
+    question("maybe", x -> x.maybe(0, 1));
+    question("safe", Counted::safe);
+    question("spy", x -> x.spy(1));
+    question("cheap", x -> x.cheap(0));
+    question("cheap, ways", x -> x.cheap(1));
+    question("plan", x -> x.plan(0));
+    question("drawn", x -> x.drawn(0));
+    question("drawn, unsent", x -> x.drawn(NONE));
+    question("count", x -> x.count(3));
+    question("status", Counted::status);
+  }
+
+  private static void own(String call, ToLongFunction<Counted> made, String... words) {
+    changesOnly("rich: " + call, RefusalsTest::rich, made, x -> { }, words);
+    changesOnly("full: " + call, RefusalsTest::full, made, x -> { }, words);
+  }
+
+  /** Calls that are not REFUSED change what is theirs alone. */
+  private static void callsChangeTheirOwn() {
+    String[] byCode = {"count 3", "judge", "of", "lasts", "mean", "next", "reached", "safe", "rows", "failing",
+        "cheap", "plan"};
+    String[] byRow = {"count 3", "judge", "of", "lasts", "mean", "next", "reached", "safe", "rows", "failing",
+        "cheap", "plan", "torn", "count 6", "tape"};
+    own("night(7, 24, 2)", x -> x.night(7, 24, 2), "drawn");
+    own("image(0)", x -> x.image(0), "image 0");
+    own("image(1)", x -> x.image(1), "image 1");
+    own("dawn()", Counted::dawn, "count 4", "log", "burnt");
+    own("send(3, 0)", x -> x.send(3, 0), "count 4", "log", "burnt");
+    own("want(2)", x -> x.want(2), "count 5", "cheap", "plan");
+    own("unwant()", Counted::unwant, "count 5", "cheap", "plan");
+    own("oil(0, 98)", x -> x.oil(0, 98), "oil 0", "burnt", "judge", "next", "cheap", "plan");
+    own("broken(0, 1)", x -> x.broken(0, 1), "broken 0", "judge", "lasts", "mean", "next", "reached", "safe", "rows",
+        "failing", "cheap", "plan");
+    own("read(1, 0)", x -> x.read(1, 0), byCode);
+    own("learn(1)", x -> x.learn(1), byCode);
+    own("make(3, 4, 1)", x -> x.make(3, 4, 1), byCode);
+    own("row()", Counted::row, byRow);
+    own("trail()", Counted::trail, "count 6", "count 12", "judge", "tape");
+    own("feed(7, 7, 7, 7, 7)", x -> x.feed(7, 7, 7, 7, 7), "count 6", "tape");
+    own("end(5)", x -> x.end(5), "count 6", "tape");
+    own("lamps(3)", x -> x.lamps(3), "count 0", "count 3", "count 4", "count 5", "judge", "of", "lasts", "mean",
+        "next", "reached", "safe", "rows", "failing", "cheap", "plan", "log", "burnt", "oil", "broken", "tape", "laws");
+    own("news(4)", x -> x.news(4), "count 1", "count 3", "count 4", "count 5", "judge", "of", "lasts", "mean",
+        "next", "reached", "safe", "rows", "failing", "cheap", "plan", "log", "burnt", "tape", "laws");
+    Consumer<Counted> withLaw = x -> {
+      rich(x);
+      x.end(0);
+      Due.text(x, "reads 3");
+    };
+    changesOnly("law()", withLaw, Counted::law, x -> x.end(0), "count 2", "fault", "laws");
+    changesOnly("back(1)", RefusalsTest::full, x -> x.back(1), x -> { });
+    changesOnly("back(1) of an image of what is", RefusalsTest::rich, x -> x.image(1) + x.back(1), x -> x.image(1));
   }
 }

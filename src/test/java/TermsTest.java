@@ -381,9 +381,37 @@ public final class TermsTest {
     // Seven lit: itself, and 0 by the last LAMP: (1 + 1 + 1/7) / 7.
     Due.is("of the last but one, upper", y.mean(127, 0), 15);
     Due.is("of the last but one, lower", y.mean(127, 1), 49);
+    meansByCounting();
     Counted z = coast(2, 2, "reads 0");
     Due.is("whole, upper", z.mean(0, 0), 1);
     Due.is("whole, lower", z.mean(0, 1), 1);
+  }
+
+  /** NEWS by how many LAMPS are lit: as few more as can be is best, so each MEAN comes from those above. */
+  private static void meansByCounting() {
+    Counted x = coast(8, 3, "reads lit%3");
+    long[] upper = {4267, 1877, 811, 341, 139, 53, 19, 5, 1};
+    for (int lit = 0; lit <= 8; lit++) {
+      Due.is("three news, upper, lit " + lit, x.mean((1 << lit) - 1, 0), upper[lit]);
+      Due.is("three news, lower, lit " + lit, x.mean((1 << lit) - 1, 1), 1 << (9 - lit));
+    }
+    Counted y = coast(8, 8, "reads lit%8");
+    long[] above = new long[9];
+    long below = 1;
+    // M = (1 + each of those above and 1) / 7, all of them over the same power of 7.
+    for (int lit = 8; lit >= 0; lit--) {
+      long together = below;
+      for (int then = lit + 1; then <= Math.min(8, lit + 7); then++) {
+        together += above[then] + below;
+      }
+      for (int then = lit + 1; then <= 8; then++) {
+        above[then] *= 7;
+      }
+      below *= 7;
+      above[lit] = together;
+      Due.is("eight news, upper, lit " + lit, y.mean((1 << lit) - 1, 0), together);
+      Due.is("eight news, lower, lit " + lit, y.mean((1 << lit) - 1, 1), below);
+    }
   }
 
   private static void reachedStates() {
