@@ -525,6 +525,20 @@ public final class LawsTest {
     tells(1, 8, "reads 1/0;reads 2;reads 3", 3);
     tells(1, 8, "reads 3;reads 1/0;reads 2 if 1=2", 3);
     tells(1, 8, "reads 1 if lit=0;reads 2 if lit=1", 1, 2);
+    everyClauseHasItsOwn();
+  }
+
+  /** Twelve CLAUSES, of which each HOLDS for one STATE alone, forwards and backwards. */
+  private static void everyClauseHasItsOwn() {
+    StringBuilder up = new StringBuilder();
+    StringBuilder down = new StringBuilder();
+    for (int i = 0; i < 12; i++) {
+      String end = i < 11 ? ";" : "";
+      up.append("reads ").append(i % 8).append(" if state=").append(i).append(end);
+      down.append("reads ").append(i % 8).append(" if state=").append(11 - i).append(end);
+    }
+    tells(4, 8, up.toString(), 0, 1, 2, 3, 4, 5, 6, 7, 0, 1, 2, 3, NONE);
+    tells(4, 8, down.toString(), 3, 2, 1, 0, 7, 6, 5, 4, 3, 2, 1, 0, NONE);
   }
 
   /** The NEWS there are, and what is none of them, which hides what an earlier CLAUSE tells. */
@@ -559,6 +573,13 @@ public final class LawsTest {
       Due.is("of 1 by " + i, x.of(1), 2);
       Due.is("of 3 by " + i, x.of(3), isMost ? 3 : 2);
       Due.is("of 7 by " + i, x.of(7), isMost ? NONE : 2);
+    }
+    Counted y = new Counted();
+    y.image(0);
+    for (int i = 0; i < 12; i++) {
+      y.back(0);
+      Due.is("a law again", Due.law(y, most), 0);
+      Due.is("learnt again", y.learn(0), 7);
     }
   }
 }

@@ -382,6 +382,7 @@ public final class TermsTest {
     Due.is("of the last but one, upper", y.mean(127, 0), 15);
     Due.is("of the last but one, lower", y.mean(127, 1), 49);
     meansByCounting();
+    meansAgain();
     Counted z = coast(2, 2, "reads 0");
     Due.is("whole, upper", z.mean(0, 0), 1);
     Due.is("whole, lower", z.mean(0, 1), 1);
@@ -411,6 +412,19 @@ public final class TermsTest {
       above[lit] = together;
       Due.is("eight news, upper, lit " + lit, y.mean((1 << lit) - 1, 0), together);
       Due.is("eight news, lower, lit " + lit, y.mean((1 << lit) - 1, 1), below);
+    }
+  }
+
+  /** A MEAN does not hang on how often it was asked. */
+  private static void meansAgain() {
+    Counted x = coast(3, 8, "reads lit");
+    for (int i = 0; i < 40; i++) {
+      x.read(7, 3 + i % 2);
+      Due.is("again, upper", x.mean(7, 0), 1);
+      Due.is("again, lower", x.mean(7, 1), 7);
+      // Two lit, one more can be: (1 + 1 + 1/7) / 7.
+      Due.is("again, above, upper", x.mean(3, 0), 15);
+      Due.is("again, above, lower", x.mean(3, 1), 49);
     }
   }
 
